@@ -225,6 +225,12 @@ final class ChangesTest {
         Due.is("rank 2", x.bucket(0, 2), 5);
         Due.is("rank 3", x.bucket(0, 3), 4);
         Due.is("the other one then", Due.sketchText(x, 1), other);
+        JoinedSketches y = twoToJoin();
+        y.join(1, 0);
+        int[] due = {3, 0, 5, 4};
+        for (int bucket = 0; bucket < due.length; bucket++) {
+            Due.is("rank " + bucket + " the other way", y.bucket(1, bucket), due[bucket]);
+        }
         Due.is("join(2, 3) of empty ones", x.join(2, 3), 0);
     }
 
