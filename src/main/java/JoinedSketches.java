@@ -4,7 +4,6 @@ import java.util.Arrays;
 public final class JoinedSketches {
     public static final int NO_SUCH = -1, BAD_VALUE = -2, BAD_TEXT = -3, TOO_MANY = -4, NOT_POSSIBLE = -5, NONE = -6;
 
-    private static final int FINE = 0;
     private static final int SKETCHES = 6;
     private static final int THINGS = 100000;
     private static final int GREATEST_RANGE = 999;
@@ -98,7 +97,7 @@ public final class JoinedSketches {
         if (changed == null || second == null) {
             return NO_SUCH;
         }
-        if (sketch == other || changed.bits != second.bits) {
+        if (!areToJoin(changed, second)) {
             return NOT_POSSIBLE;
         }
         history.record(now);
@@ -111,7 +110,7 @@ public final class JoinedSketches {
         if (changed == null) {
             return NO_SUCH;
         }
-        if (changed.bits <= LEAST_BITS) {
+        if (!isToFold(changed)) {
             return NOT_POSSIBLE;
         }
         history.record(now);
@@ -316,7 +315,7 @@ public final class JoinedSketches {
         history.record(now);
         int done = 0;
         pad.goToStart();
-        while (done < PAD_LIMIT && pad.readOrder() && carryOrderOut() == FINE) {
+        while (done < PAD_LIMIT && pad.readOrder() && carryOrderOut()) {
             done++;
             if (!pad.accept(';')) {
                 break;
@@ -365,6 +364,14 @@ public final class JoinedSketches {
 
     private static boolean isRange(int from, int many) {
         return isThing(from) && many >= 1 && many <= GREATEST_RANGE && from + many <= THINGS;
+    }
+
+    private static boolean areToJoin(Sketch one, Sketch other) {
+        return one != other && one.bits == other.bits;
+    }
+
+    private static boolean isToFold(Sketch sketch) {
+        return sketch.bits > LEAST_BITS;
     }
 
     private static int hashOf(int thing, int salt) {
@@ -425,11 +432,11 @@ public final class JoinedSketches {
         return many;
     }
 
-    /** Carries out the order that was read last, and records nothing; answers FINE or the error of the order. */
-    private int carryOrderOut() {
+    /** Carries out the order that was read last, and records nothing; answers false if it would be an error. */
+    private boolean carryOrderOut() {
         Sketch changed = now.sketchAt(pad.sketch);
         if (changed == null) {
-            return NO_SUCH;
+            return false;
         }
         switch (pad.verb) {
             case ':': return carryThingsOut(changed);
@@ -438,45 +445,42 @@ public final class JoinedSketches {
             case '/': return carryFoldOut(changed);
             default:
                 changed.startAgain(changed.bits);
-                return FINE;
+                return true;
         }
     }
 
-    private int carryThingsOut(Sketch changed) {
+    private boolean carryThingsOut(Sketch changed) {
         for (int place = 0; place < pad.many; place++) {
             takeThings(changed, pad.numberAt(place), 1);
         }
-        return FINE;
+        return true;
     }
 
-    private int carryJoinOut(Sketch changed) {
+    private boolean carryJoinOut(Sketch changed) {
         Sketch other = now.sketchAt(pad.numberAt(0));
-        if (other == null) {
-            return NO_SUCH;
-        }
-        if (changed == other || changed.bits != other.bits) {
-            return NOT_POSSIBLE;
+        if (other == null || !areToJoin(changed, other)) {
+            return false;
         }
         changed.takeAll(other);
-        return FINE;
+        return true;
     }
 
-    private int carryRangeOut(Sketch changed) {
+    private boolean carryRangeOut(Sketch changed) {
         int from = pad.numberAt(0);
         int many = pad.numberAt(1);
         if (!isRange(from, many)) {
-            return BAD_VALUE;
+            return false;
         }
         takeThings(changed, from, many);
-        return FINE;
+        return true;
     }
 
-    private static int carryFoldOut(Sketch changed) {
-        if (changed.bits <= LEAST_BITS) {
-            return NOT_POSSIBLE;
+    private static boolean carryFoldOut(Sketch changed) {
+        if (!isToFold(changed)) {
+            return false;
         }
         changed.halve();
-        return FINE;
+        return true;
     }
 
     /** One sketch: its buckets with their ranks, and the list of its stream beside it. */
@@ -792,7 +796,7 @@ public final class JoinedSketches {
         private int at = 0;
         // The order that was read last.
         private int sketch = 0;
-        private char verb = '!';
+        private int verb = '!';
         private final int[] numbers = new int[PAD_LIMIT];
         private int many = 0;
 
