@@ -91,7 +91,7 @@ final class ChangesTest {
             Due.is("BITS then", x.ofSketch(5, 0), bits);
             Due.is("buckets then", x.ofSketch(5, 1), 1L << bits);
         }
-        for (int sketch : new int[] {-1, 6, Integer.MIN_VALUE, Integer.MAX_VALUE}) {
+        for (int sketch : Due.NO_SKETCHES) {
             Due.error("bits(" + sketch + ", 3)", Due::furnished, x -> x.bits(sketch, 3), Due.NO_SUCH);
             Due.error("bits(" + sketch + ", 1)", Due::furnished, x -> x.bits(sketch, 1), Due.NO_SUCH);
         }
@@ -160,7 +160,7 @@ final class ChangesTest {
         Due.change("add(2, 20), which is there", Due::furnished, x -> x.add(2, 20), 0);
         Due.change("add(5, 0)", Due::furnished, x -> x.add(5, 0), 1);
         Due.change("add(5, 99999)", Due::furnished, x -> x.add(5, 99999), 1);
-        for (int sketch : new int[] {-1, 6, Integer.MIN_VALUE, Integer.MAX_VALUE}) {
+        for (int sketch : Due.NO_SKETCHES) {
             Due.error("add(" + sketch + ", 0)", Due::furnished, x -> x.add(sketch, 0), Due.NO_SUCH);
             Due.error("add(" + sketch + ", -1)", Due::furnished, x -> x.add(sketch, -1), Due.NO_SUCH);
         }
@@ -308,7 +308,7 @@ final class ChangesTest {
         Due.change("fold(3)", Due::furnished, x -> x.fold(3), 32);
         Due.change("fold(1)", Due::furnished, x -> x.fold(1), 8);
         Due.change("fold(5), empty", Due::furnished, x -> x.fold(5), 8);
-        for (int sketch : new int[] {-1, 6, Integer.MIN_VALUE, Integer.MAX_VALUE}) {
+        for (int sketch : Due.NO_SKETCHES) {
             Due.error("fold(" + sketch + ")", Due::furnished, x -> x.fold(sketch), Due.NO_SUCH);
         }
         Due.error("fold(0) by BITS 2", Due::furnished, x -> x.fold(0), Due.NOT_POSSIBLE);
@@ -332,7 +332,7 @@ final class ChangesTest {
         Due.is("it goes on", x.ofSketch(2, 8), 1);
         Due.change("empty(5), which is empty", Due::furnished, y -> y.empty(5), 0);
         Due.change("empty(0)", Due::furnished, y -> y.empty(0), 4);
-        for (int sketch : new int[] {-1, 6, Integer.MIN_VALUE, Integer.MAX_VALUE}) {
+        for (int sketch : Due.NO_SKETCHES) {
             Due.error("empty(" + sketch + ")", Due::furnished, y -> y.empty(sketch), Due.NO_SUCH);
         }
     }

@@ -1,3 +1,7 @@
+import java.util.Arrays;
+import java.util.HashMap;
+import java.util.List;
+import java.util.Map;
 import java.util.function.Supplier;
 import java.util.function.ToLongFunction;
 
@@ -5,23 +9,32 @@ import java.util.function.ToLongFunction;
 final class Due {
     static final int NO_SUCH = -1, BAD_VALUE = -2, BAD_TEXT = -3, TOO_MANY = -4, NOT_POSSIBLE = -5, NONE = -6;
     static final int FIRST_SALT = 12345;
+    static final int[] NO_SKETCHES = {-1, 6, Integer.MIN_VALUE, Integer.MAX_VALUE};
+    private static final int VIEWS = 10;
+    private static final Map<List<Integer>, Integer> FOUND = new HashMap<>();
 
     private static int wrong = 0;
+    private static String sentence = "";
 
     private Due() {
+    }
+
+    /** What is checked from here on stands under a sentence of the document. */
+    static void sentence(String words) {
+        sentence = "[" + words + "] ";
     }
 
     static void is(String call, long got, long due) {
         if (got != due) {
             wrong++;
-            System.out.println(call + " answered " + got + ", due is " + due);
+            System.out.println(sentence + call + " answered " + got + ", due is " + due);
         }
     }
 
     static void is(String call, String got, String due) {
         if (!got.equals(due)) {
             wrong++;
-            System.out.println(call + " answered\n  " + got + "\ndue is\n  " + due);
+            System.out.println(sentence + call + " answered\n  " + got + "\ndue is\n  " + due);
         }
     }
 
@@ -32,11 +45,14 @@ final class Due {
         }
     }
 
-    /** The call answers an error, and an object where it was made answers all else as one where it was not. */
+    /** The call answers an error, and an object where it was made shows all else as one where it was not. */
     static void error(String name, Supplier<JoinedSketches> setup, ToLongFunction<JoinedSketches> call, long due) {
-        JoinedSketches x = setup.get();
-        is(name, call.applyAsLong(x), due);
-        is("what there is after " + name, everything(x), everything(setup.get()));
+        is(name, call.applyAsLong(setup.get()), due);
+        for (int view = 0; view < VIEWS; view++) {
+            JoinedSketches x = setup.get();
+            call.applyAsLong(x);
+            is("view " + view + " after " + name, viewed(x, view), viewed(setup.get(), view));
+        }
     }
 
     /** The call answers what is due, and changes nothing, not even the history. */
@@ -70,28 +86,33 @@ final class Due {
     static String sketchText(JoinedSketches x, int sketch) {
         StringBuilder text = new StringBuilder();
         text.append(x.ofSketch(sketch, 0)).append(" ranks");
-        for (int bucket = 0; bucket < x.ofSketch(sketch, 1); bucket++) {
-            text.append(' ').append(x.bucket(sketch, bucket));
+        for (int rank = 0; rank <= 15; rank++) {
+            text.append(' ').append(Long.toHexString(x.withRank(sketch, rank)));
         }
-        text.append(" list ").append(x.ofSketch(sketch, 8)).append(':');
-        for (int place = 0; place < x.ofSketch(sketch, 8); place++) {
+        int listed = x.ofSketch(sketch, 8);
+        text.append(" list ").append(listed).append(':');
+        for (int place = 0; place < listed; place++) {
             text.append(' ').append(x.listed(sketch, place));
         }
         return text.append(' ').toString();
     }
 
-    /** Contents, pad, slots and history; the object is spent by it. */
-    static String everything(JoinedSketches x) {
-        StringBuilder text = new StringBuilder(contents(x));
-        text.append("pad ").append(x.count(4)).append(' ').append(x.fault());
-        text.append(" history ").append(x.count(5)).append(" steps");
-        for (int steps = 0; steps < 7; steps++) {
-            text.append(' ').append(x.undo()).append(' ').append(x.count(0)).append(' ').append(x.count(2));
+    /**
+     * One of the views of all that an object holds: the contents after 0 to 6 times undo(), the slots, the pad's text.
+     * Each is taken of an object of its own, as an object is good for 512 calls.
+     */
+    static String viewed(JoinedSketches x, int view) {
+        String seen = "pad " + x.count(4) + ", fault " + x.fault() + ", to undo " + x.count(5) + ", then ";
+        if (view <= 6) {
+            for (int steps = 0; steps < view; steps++) {
+                seen += x.undo() + " ";
+            }
+        } else if (view <= 8) {
+            seen += x.restore(view - 7) + " ";
+        } else {
+            seen += x.carryOut() + " ";
         }
-        text.append(" slots ").append(x.restore(0)).append(' ').append(x.count(0));
-        text.append(' ').append(x.restore(1)).append(' ').append(x.count(0));
-        text.append(" orders ").append(x.carryOut()).append(' ').append(x.count(2));
-        return text.toString();
+        return seen + contents(x);
     }
 
     static JoinedSketches put(JoinedSketches x, String text) {
@@ -116,6 +137,11 @@ final class Due {
 
     /** The least thing from one on that has a bucket and a rank, found by the words of the document alone. */
     static int thingFor(int salt, int bits, int bucket, int rank, int from) {
+        return FOUND.computeIfAbsent(List.of(salt, bits, bucket, rank, from),
+            key -> searchThing(salt, bits, bucket, rank, from));
+    }
+
+    private static int searchThing(int salt, int bits, int bucket, int rank, int from) {
         int buckets = (int) Math.pow(2, bits);
         for (int thing = from; thing < 100000; thing++) {
             int hash = hash(thing, salt);
@@ -142,6 +168,38 @@ final class Due {
                 x.add(sketch, thingFor(x.count(0), bits, bucket, ranks[bucket], 0));
             }
         }
+    }
+
+    /** A new object whose sketch 0 has these BITS and ranks. */
+    static JoinedSketches ranked(int bits, int... ranks) {
+        JoinedSketches x = new JoinedSketches();
+        x.bits(0, bits);
+        fill(x, 0, ranks);
+        return x;
+    }
+
+    /** Pairs of how many and a rank, written out one behind the other. */
+    static int[] ranks(int... pairs) {
+        int[] ranks = new int[0];
+        for (int pair = 0; pair + 1 < pairs.length; pair += 2) {
+            int from = ranks.length;
+            ranks = Arrays.copyOf(ranks, from + pairs[pair]);
+            Arrays.fill(ranks, from, ranks.length, pairs[pair + 1]);
+        }
+        return ranks;
+    }
+
+    /** A new object whose sketch 0 has a list of the things 0 to many - 1, and ranks by them. */
+    static JoinedSketches ofMany(int many) {
+        JoinedSketches x = new JoinedSketches();
+        for (int from = 0; from < many; from += 999) {
+            x.addRange(0, from, Math.min(999, many - from));
+        }
+        return x;
+    }
+
+    static JoinedSketches with(String text) {
+        return put(new JoinedSketches(), text);
     }
 
     /** An object with something in most of its parts. */

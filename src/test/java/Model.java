@@ -422,4 +422,24 @@ final class Model {
         now = slots[slot].copy();
         return now.filled();
     }
+
+    /** As Due.contents() tells them of an object. */
+    String contents() {
+        StringBuilder text = new StringBuilder();
+        for (int what = 0; what <= 3; what++) {
+            text.append(count(what)).append(' ');
+        }
+        for (int sketch = 0; sketch < 6; sketch++) {
+            text.append("| ").append(at(sketch).bits).append(" ranks");
+            for (int rank = 0; rank <= 15; rank++) {
+                text.append(' ').append(Long.toHexString(withRank(sketch, rank)));
+            }
+            text.append(" list ").append(ofSketch(sketch, 8)).append(':');
+            for (int thing : at(sketch).list == null ? List.<Integer>of() : at(sketch).list) {
+                text.append(' ').append(thing);
+            }
+            text.append(' ');
+        }
+        return text.toString();
+    }
 }

@@ -1,7 +1,5 @@
 /** Promises 15 to 19: together, alike, off, nextNew, bestSalt. */
 final class QuestionsTest {
-    private static final int[] NO_SKETCHES = {-1, 6, Integer.MIN_VALUE, Integer.MAX_VALUE};
-
     public static void main(String[] args) {
         togetherTells();
         togetherErrors();
@@ -108,7 +106,7 @@ final class QuestionsTest {
         Due.is("off(2) of 40", x.off(2), 100000 + x.ofSketch(2, 6) - 40);
         x.add(2, 40);
         Due.is("off(2) of a full one", x.off(2), Due.NOT_POSSIBLE);
-        for (int sketch : NO_SKETCHES) {
+        for (int sketch : Due.NO_SKETCHES) {
             Due.error("off(" + sketch + ")", Due::furnished, y -> y.off(sketch), Due.NO_SUCH);
         }
         Due.error("off(1)", Due::furnished, y -> y.off(1), Due.NOT_POSSIBLE);
@@ -119,14 +117,15 @@ final class QuestionsTest {
         JoinedSketches x = new JoinedSketches();
         Due.is("nextNew(0, 0) of an empty one", x.nextNew(0, 0), 0);
         Due.is("nextNew(0, 99999) of an empty one", x.nextNew(0, 99999), 99999);
-        x.addRange(0, 0, 300);
         for (int from : new int[] {0, 10, 299, 1000, 50000}) {
+            JoinedSketches y = new JoinedSketches();
+            y.addRange(0, 0, 300);
             int due = from;
-            while (x.thing(0, due, 3) == 0) {
+            while (y.thing(0, due, 3) == 0) {
                 due++;
             }
-            Due.is("nextNew(0, " + from + ")", x.nextNew(0, from), due);
-            Due.is("nextNew(0, " + due + "), from itself", x.nextNew(0, due), due);
+            Due.is("nextNew(0, " + from + ")", y.nextNew(0, from), due);
+            Due.is("nextNew(0, " + due + "), from itself", y.nextNew(0, due), due);
         }
         x.add(1, 7);
         Due.is("nextNew(1, 7): 7 itself would not", x.nextNew(1, 7), 8);
@@ -154,7 +153,7 @@ final class QuestionsTest {
     }
 
     static void nextNewErrors() {
-        for (int sketch : NO_SKETCHES) {
+        for (int sketch : Due.NO_SKETCHES) {
             Due.error("nextNew(" + sketch + ", 0)", Due::furnished, x -> x.nextNew(sketch, 0), Due.NO_SUCH);
             Due.error("nextNew(" + sketch + ", -1)", Due::furnished, x -> x.nextNew(sketch, -1), Due.NO_SUCH);
         }
@@ -207,7 +206,7 @@ final class QuestionsTest {
     }
 
     static void bestSaltErrors() {
-        for (int sketch : NO_SKETCHES) {
+        for (int sketch : Due.NO_SKETCHES) {
             Due.error("bestSalt(" + sketch + ")", Due::furnished, x -> x.bestSalt(sketch), Due.NO_SUCH);
         }
         Due.error("bestSalt(1)", Due::furnished, x -> x.bestSalt(1), Due.NOT_POSSIBLE);

@@ -2,12 +2,14 @@
 final class RandomRunsTest {
     private static final int RUNS = 240;
     private static final int CALLS = 512;
+    private static final int MOST_AT_ONCE = 4;
     private static final int[] ODD = {-1, -2, 6, 16, 64, 100000, 65536, Integer.MIN_VALUE, Integer.MAX_VALUE, 99999};
 
     private long seed;
     private final JoinedSketches x = new JoinedSketches();
     private final Model model = new Model();
     private String waiting = "";
+    private int calls = 0;
 
     private RandomRunsTest(int run) {
         seed = run * 7919L + 17;
@@ -16,11 +18,16 @@ final class RandomRunsTest {
     public static void main(String[] args) {
         for (int run = 0; run < RUNS; run++) {
             RandomRunsTest test = new RandomRunsTest(run);
-            for (int call = 0; call < CALLS; call++) {
-                test.call("run " + run + ", call " + call + ": ");
+            while (test.calls <= CALLS - MOST_AT_ONCE) {
+                test.call("run " + run + ", call " + (test.calls + 1) + ": ");
             }
         }
         Due.end();
+    }
+
+    private void same(String call, long got, long due) {
+        calls++;
+        Due.is(call, got, due);
     }
 
     private int below(int bound) {
@@ -52,31 +59,31 @@ final class RandomRunsTest {
             case 0: {
                 int salt = oddOr(below(2) == 0 ? below(65536) : 12345);
                 int kept = below(3) == 0 ? salt : -1;
-                Due.is(where + "salt(" + kept + ")", x.salt(kept), model.salt(kept));
+                same(where + "salt(" + kept + ")", x.salt(kept), model.salt(kept));
                 return;
             }
             case 1: case 2: {
                 int bits = below(9);
-                Due.is(where + "bits(" + a + ", " + bits + ")", x.bits(a, bits), model.bits(a, bits));
+                same(where + "bits(" + a + ", " + bits + ")", x.bits(a, bits), model.bits(a, bits));
                 return;
             }
             case 3: case 4: case 5: case 6:
-                Due.is(where + "add(" + a + ", " + thing + ")", x.add(a, thing), model.add(a, thing));
+                same(where + "add(" + a + ", " + thing + ")", x.add(a, thing), model.add(a, thing));
                 return;
             case 7: case 8: case 9: {
                 int many = someMany();
-                Due.is(where + "addRange(" + a + ", " + thing + ", " + many + ")",
+                same(where + "addRange(" + a + ", " + thing + ", " + many + ")",
                     x.addRange(a, thing, many), model.addRange(a, thing, many));
                 return;
             }
             case 10: case 11: case 12:
-                Due.is(where + "join(" + a + ", " + b + ")", x.join(a, b), model.join(a, b));
+                same(where + "join(" + a + ", " + b + ")", x.join(a, b), model.join(a, b));
                 return;
             case 13:
-                Due.is(where + "fold(" + a + ")", x.fold(a), model.fold(a));
+                same(where + "fold(" + a + ")", x.fold(a), model.fold(a));
                 return;
             case 14:
-                Due.is(where + "empty(" + a + ")", x.empty(a), model.empty(a));
+                same(where + "empty(" + a + ")", x.empty(a), model.empty(a));
                 return;
             default:
                 readingCall(where, a, b, thing);
@@ -87,38 +94,38 @@ final class RandomRunsTest {
         int what = below(10) - 1;
         switch (below(14)) {
             case 0:
-                Due.is(where + "thing(" + a + ", " + thing + ", " + what + ")",
+                same(where + "thing(" + a + ", " + thing + ", " + what + ")",
                     x.thing(a, thing, what), model.thing(a, thing, what));
                 return;
             case 1: {
                 int bucket = oddOr(below(66));
-                Due.is(where + "bucket(" + a + ", " + bucket + ")", x.bucket(a, bucket), model.bucket(a, bucket));
+                same(where + "bucket(" + a + ", " + bucket + ")", x.bucket(a, bucket), model.bucket(a, bucket));
                 return;
             }
             case 2: case 3:
-                Due.is(where + "ofSketch(" + a + ", " + what + ")", x.ofSketch(a, what), model.ofSketch(a, what));
+                same(where + "ofSketch(" + a + ", " + what + ")", x.ofSketch(a, what), model.ofSketch(a, what));
                 return;
             case 4: {
                 int rank = oddOr(below(17));
-                Due.is(where + "withRank(" + a + ", " + rank + ")", x.withRank(a, rank), model.withRank(a, rank));
+                same(where + "withRank(" + a + ", " + rank + ")", x.withRank(a, rank), model.withRank(a, rank));
                 return;
             }
             case 5: {
                 int place = oddOr(below(42));
-                Due.is(where + "listed(" + a + ", " + place + ")", x.listed(a, place), model.listed(a, place));
+                same(where + "listed(" + a + ", " + place + ")", x.listed(a, place), model.listed(a, place));
                 return;
             }
             case 6:
-                Due.is(where + "count(" + what + ")", x.count(what), model.count(what));
+                same(where + "count(" + what + ")", x.count(what), model.count(what));
                 return;
             case 7:
-                Due.is(where + "together(" + a + ", " + b + ")", x.together(a, b), model.together(a, b));
+                same(where + "together(" + a + ", " + b + ")", x.together(a, b), model.together(a, b));
                 return;
             case 8:
-                Due.is(where + "alike(" + a + ", " + b + ")", x.alike(a, b), model.alike(a, b));
+                same(where + "alike(" + a + ", " + b + ")", x.alike(a, b), model.alike(a, b));
                 return;
             case 9:
-                Due.is(where + "off(" + a + ")", x.off(a), model.off(a));
+                same(where + "off(" + a + ")", x.off(a), model.off(a));
                 return;
             default:
                 rareCall(where, a, thing);
@@ -129,30 +136,30 @@ final class RandomRunsTest {
         int slot = oddOr(below(2));
         switch (below(10)) {
             case 0:
-                Due.is(where + "nextNew(" + a + ", " + thing + ")", x.nextNew(a, thing), model.nextNew(a, thing));
+                same(where + "nextNew(" + a + ", " + thing + ")", x.nextNew(a, thing), model.nextNew(a, thing));
                 return;
             case 1:
                 if (below(4) == 0) {
-                    Due.is(where + "bestSalt(" + a + ")", x.bestSalt(a), model.bestSalt(a));
+                    same(where + "bestSalt(" + a + ")", x.bestSalt(a), model.bestSalt(a));
                 }
                 return;
             case 2: case 3: case 4:
                 someText(where);
                 return;
             case 5:
-                Due.is(where + "fault()", x.fault(), model.fault());
+                same(where + "fault()", x.fault(), model.fault());
                 return;
             case 6:
-                Due.is(where + "carryOut()", x.carryOut(), model.carryOut());
+                same(where + "carryOut()", x.carryOut(), model.carryOut());
                 return;
             case 7:
-                Due.is(where + "undo()", x.undo(), model.undo());
+                same(where + "undo()", x.undo(), model.undo());
                 return;
             case 8:
-                Due.is(where + "save(" + slot + ")", x.save(slot), model.save(slot));
+                same(where + "save(" + slot + ")", x.save(slot), model.save(slot));
                 return;
             default:
-                Due.is(where + "restore(" + slot + ")", x.restore(slot), model.restore(slot));
+                same(where + "restore(" + slot + ")", x.restore(slot), model.restore(slot));
         }
     }
 
@@ -160,16 +167,16 @@ final class RandomRunsTest {
     private void someText(String where) {
         if (waiting.isEmpty() || below(12) == 0) {
             waiting = orders();
-            Due.is(where + "wipe()", x.wipe(), model.wipe());
+            same(where + "wipe()", x.wipe(), model.wipe());
         }
         int many = 1 + below(8);
         String part = waiting.substring(0, Math.min(many, waiting.length()));
         waiting = waiting.substring(part.length());
         long characters = below(15) == 0 ? seed : Due.packed(part);
-        Due.is(where + "put(" + characters + ")", x.put(characters), model.put(characters));
-        Due.is(where + "fault()", x.fault(), model.fault());
+        same(where + "put(" + characters + ")", x.put(characters), model.put(characters));
+        same(where + "fault()", x.fault(), model.fault());
         if (waiting.isEmpty() && below(4) > 0) {
-            Due.is(where + "carryOut()", x.carryOut(), model.carryOut());
+            same(where + "carryOut()", x.carryOut(), model.carryOut());
         }
     }
 

@@ -14,10 +14,6 @@ final class TextsTest {
         Due.end();
     }
 
-    static JoinedSketches with(String text) {
-        return Due.put(new JoinedSketches(), text);
-    }
-
     static void putAppends() {
         JoinedSketches x = new JoinedSketches();
         String text = "0:0,4,12";
@@ -52,25 +48,25 @@ final class TextsTest {
     }
 
     static JoinedSketches ofEighty() {
-        return with("0!;".repeat(26) + "5!");
+        return Due.with("0!;".repeat(26) + "5!");
     }
 
     static void putTooMany() {
-        JoinedSketches x = with("0!;".repeat(24));
+        JoinedSketches x = Due.with("0!;".repeat(24));
         Due.is("put() up to 79", x.put(Due.packed("1:12345")), 79);
-        JoinedSketches y = with("0!;".repeat(24));
+        JoinedSketches y = Due.with("0!;".repeat(24));
         Due.is("put() up to 80", y.put(Due.packed("1:12,3,4")), 80);
         Due.is("fault() of 80", y.fault(), Due.NONE);
         Due.error("put() of 1 to 80", TextsTest::ofEighty, z -> z.put('1'), Due.TOO_MANY);
         Due.error("put() of 8 to 80", TextsTest::ofEighty, z -> z.put(Due.packed("12345678")), Due.TOO_MANY);
-        Due.error("put() of 2 to 79", () -> with("0!;".repeat(26) + "5"), z -> z.put(Due.packed("!;")), Due.TOO_MANY);
-        Due.error("put() of 8 to 73", () -> with("0!;".repeat(24) + "5"), z -> z.put(Due.packed("12345678")),
+        Due.error("put() of 2 to 79", () -> Due.with("0!;".repeat(26) + "5"), z -> z.put(Due.packed("!;")), Due.TOO_MANY);
+        Due.error("put() of 8 to 73", () -> Due.with("0!;".repeat(24) + "5"), z -> z.put(Due.packed("12345678")),
             Due.TOO_MANY);
         Due.is("carryOut() of 80", ofEighty().carryOut(), 27);
     }
 
     static void wipeEmpties() {
-        JoinedSketches x = with("0:1;!!");
+        JoinedSketches x = Due.with("0:1;!!");
         x.add(1, 5);
         Due.is("wipe()", x.wipe(), 6);
         Due.is("count(4) then", x.count(4), 0);
@@ -82,7 +78,7 @@ final class TextsTest {
     }
 
     static void faultIs(String text, int due) {
-        Due.is("fault() of \"" + text + "\"", with(text).fault(), due);
+        Due.is("fault() of \"" + text + "\"", Due.with(text).fault(), due);
     }
 
     static void faults() {
@@ -143,15 +139,15 @@ final class TextsTest {
 
     static void faultChangesNothing() {
         Due.question("fault()", Due::furnished, JoinedSketches::fault, Due.NONE);
-        Due.question("fault() of a fault", () -> with("0:1;x"), JoinedSketches::fault, 4);
-        JoinedSketches x = with("0:1;");
+        Due.question("fault() of a fault", () -> Due.with("0:1;x"), JoinedSketches::fault, 4);
+        JoinedSketches x = Due.with("0:1;");
         Due.is("fault()", x.fault(), 4);
         x.put(Due.packed("1!"));
         Due.is("fault() of more", x.fault(), Due.NONE);
     }
 
     static void carryOutDoesAll() {
-        JoinedSketches x = with("0:7,8,7;1*100+3;0&1;2:50;2!;3:1,2,3,4;3/");
+        JoinedSketches x = Due.with("0:7,8,7;1*100+3;0&1;2:50;2!;3:1,2,3,4;3/");
         Due.is("carryOut()", x.carryOut(), 7);
         JoinedSketches y = new JoinedSketches();
         y.add(0, 7);
@@ -166,7 +162,7 @@ final class TextsTest {
         Due.is("contents then", Due.contents(x), Due.contents(y));
         Due.is("pad then", x.count(4), 0);
         Due.is("fault() then", x.fault(), 0);
-        JoinedSketches z = with("4*99001+999");
+        JoinedSketches z = Due.with("4*99001+999");
         Due.is("carryOut() of a great range", z.carryOut(), 1);
         Due.is("its list", z.ofSketch(4, 8), Due.NONE);
     }
@@ -195,7 +191,7 @@ final class TextsTest {
         stops("0*99999+2;5:1", 0);
         stops("0*99001+999;0*99002+999;5:1", 1);
         stops("0/;0/;0/;5:1", 2);
-        JoinedSketches x = with("0:9;0/;1:4,3;1&0;2:1");
+        JoinedSketches x = Due.with("0:9;0/;1:4,3;1&0;2:1");
         Due.is("carryOut()", x.carryOut(), 3);
         Due.is("what came before the stop stands: list of 0", x.listed(0, 0), 9);
         Due.is("BITS of 0", x.ofSketch(0, 0), 3);

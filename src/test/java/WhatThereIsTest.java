@@ -1,7 +1,5 @@
 /** Promises 9 to 14: thing, bucket, ofSketch, withRank, listed, count. */
 final class WhatThereIsTest {
-    private static final int[] NO_SKETCHES = {-1, 6, Integer.MIN_VALUE, Integer.MAX_VALUE};
-
     public static void main(String[] args) {
         thingTells();
         thingWouldChange();
@@ -60,7 +58,7 @@ final class WhatThereIsTest {
     }
 
     static void thingErrors() {
-        for (int sketch : NO_SKETCHES) {
+        for (int sketch : Due.NO_SKETCHES) {
             Due.error("thing(" + sketch + ", 0, 0)", Due::furnished, x -> x.thing(sketch, 0, 0), Due.NO_SUCH);
             Due.error("thing(" + sketch + ", -1, 9)", Due::furnished, x -> x.thing(sketch, -1, 9), Due.NO_SUCH);
         }
@@ -94,7 +92,7 @@ final class WhatThereIsTest {
             Due.is("the last bucket", x.bucket(1, (1 << bits) - 1), 0);
             Due.is("one behind it", x.bucket(1, 1 << bits), Due.NO_SUCH);
         }
-        for (int sketch : NO_SKETCHES) {
+        for (int sketch : Due.NO_SKETCHES) {
             Due.error("bucket(" + sketch + ", 0)", Due::furnished, y -> y.bucket(sketch, 0), Due.NO_SUCH);
         }
         for (int bucket : new int[] {-1, 4, 64, Integer.MIN_VALUE, Integer.MAX_VALUE}) {
@@ -177,7 +175,7 @@ final class WhatThereIsTest {
     }
 
     static void ofSketchErrors() {
-        for (int sketch : NO_SKETCHES) {
+        for (int sketch : Due.NO_SKETCHES) {
             Due.error("ofSketch(" + sketch + ", 0)", Due::furnished, x -> x.ofSketch(sketch, 0), Due.NO_SUCH);
             Due.error("ofSketch(" + sketch + ", 9)", Due::furnished, x -> x.ofSketch(sketch, 9), Due.NO_SUCH);
         }
@@ -211,7 +209,7 @@ final class WhatThereIsTest {
         x.add(3, Due.thingFor(Due.FIRST_SALT, 6, 40, 1, 0));
         Due.is("withRank(3, 1)", x.withRank(3, 1), (1L << 63) + (1L << 40));
         Due.is("withRank(3, 0)", x.withRank(3, 0), ~((1L << 63) + (1L << 40)));
-        for (int sketch : NO_SKETCHES) {
+        for (int sketch : Due.NO_SKETCHES) {
             Due.error("withRank(" + sketch + ", 0)", Due::furnished, y -> y.withRank(sketch, 0), -1L);
             Due.error("withRank(" + sketch + ", 16)", Due::furnished, y -> y.withRank(sketch, 16), -1L);
         }
@@ -233,7 +231,7 @@ final class WhatThereIsTest {
         x.add(0, 4);
         Due.is("listed(0, 0) of a full one", x.listed(0, 0), Due.NO_SUCH);
         Due.is("listed(0, 39) of a full one", x.listed(0, 39), Due.NO_SUCH);
-        for (int sketch : NO_SKETCHES) {
+        for (int sketch : Due.NO_SKETCHES) {
             Due.error("listed(" + sketch + ", 0)", Due::furnished, y -> y.listed(sketch, 0), Due.NO_SUCH);
         }
         for (int place : new int[] {-1, 7, 40, Integer.MIN_VALUE, Integer.MAX_VALUE}) {
