@@ -304,8 +304,8 @@ final class BoundsOfChangesTest {
     }
 
     static void foldTakesTheGreaterOne() {
-        Due.sentence("7: its rank is the greater one of what comes of both: of the lower one, b, if it is not empty, its "
-            + "rank plus 1; of the upper one, if it is not empty, 1; an empty one gives 0");
+        Due.sentence("7: its rank is the greater one of what comes of both: of the lower one, b, if it is not empty, "
+            + "its rank plus 1; of the upper one, if it is not empty, 1; an empty one gives 0");
         for (int bits = 3; bits <= 6; bits++) {
             int most = 17 - bits;
             int half = 1 << (bits - 1);

@@ -100,8 +100,8 @@ final class BoundsOfQuestionsTest {
     }
 
     static void shareOfBuckets() {
-        Due.sentence("16: the bits, as Float.floatToIntBits tells them, of how many these are, as a float, divided by all, "
-            + "as a float");
+        Due.sentence("16: the bits, as Float.floatToIntBits tells them, of how many these are, as a float, divided "
+            + "by all, as a float");
         for (int bits = 2; bits <= 6; bits++) {
             int all = 1 << bits;
             for (int unlike = 0; unlike <= all; unlike++) {
@@ -167,7 +167,7 @@ final class BoundsOfQuestionsTest {
         }
     }
 
-    /** An object by whose SALT the thing has the hash 0, and all buckets of sketch 0 have the rank 1 less than by that. */
+    /** By its SALT the thing has the hash 0, and no other hash has the rank 15 in bucket 0, which has 14 still. */
     static JoinedSketches onlyFor(int thing) {
         JoinedSketches x = new JoinedSketches();
         x.salt(Math.floorMod(-thing * 40503L, 65536));
@@ -181,7 +181,8 @@ final class BoundsOfQuestionsTest {
         // Only the thing of hash 0 would, and the one that is 65536 more or less.
         int[][] cases = {{0, 0, 0}, {0, 1, 65536}, {0, 65536, 65536}, {0, 65537, Due.NONE}, {99999, 0, 34463},
             {99999, 34463, 34463}, {99999, 34464, 99999}, {99999, 99999, 99999}, {99998, 99999, Due.NONE},
-            {99998, 99998, 99998}, {40000, 39999, 40000}, {40000, 40000, 40000}, {40000, 40001, Due.NONE}};
+            {99998, 99998, 99998}, {100000, 34464, 34464}, {100000, 34465, Due.NONE},
+            {40000, 39999, 40000}, {40000, 40000, 40000}, {40000, 40001, Due.NONE}};
         for (int[] of : cases) {
             Due.question("nextNew(0, " + of[1] + "), thing " + of[0] + " of hash 0", () -> onlyFor(of[0]),
                 x -> x.nextNew(0, of[1]), of[2]);
@@ -203,15 +204,6 @@ final class BoundsOfQuestionsTest {
         }
     }
 
-    /** How far the estimate would be from many by this SALT, asked of a sketch that is made by it. */
-    static int distance(int salt, int bits, int from, int many) {
-        JoinedSketches x = new JoinedSketches();
-        x.salt(salt);
-        x.bits(0, bits);
-        x.addRange(0, from, many);
-        return Math.abs(x.ofSketch(0, 6) - many);
-    }
-
     static JoinedSketches ofRange(int bits, int from, int many) {
         JoinedSketches x = new JoinedSketches();
         x.bits(0, bits);
@@ -226,19 +218,19 @@ final class BoundsOfQuestionsTest {
 
     static void bestSaltIs0To255() {
         Due.sentence("19: Finds the SALT, 0 to 255");
-        Due.is("distance by 0", distance(0, 2, 119, 4), 0);
+        Due.is("distance by 0", QuestionsTest.distance(0, 2, 119, 4), 0);
         bestSaltIs(2, 119, 4, 0);
-        Due.is("distance by 1", distance(1, 2, 118, 4), 0);
+        Due.is("distance by 1", QuestionsTest.distance(1, 2, 118, 4), 0);
         bestSaltIs(2, 118, 4, 1);
         for (int salt = 0; salt < 255; salt++) {
-            Due.is("distance by " + salt + " is above 0", distance(salt, 2, 1034, 5) > 0 ? 1 : 0, 1);
+            Due.is("distance by " + salt + " is above 0", QuestionsTest.distance(salt, 2, 1034, 5) > 0 ? 1 : 0, 1);
         }
-        Due.is("distance by 255", distance(255, 2, 1034, 5), 0);
+        Due.is("distance by 255", QuestionsTest.distance(255, 2, 1034, 5), 0);
         bestSaltIs(2, 1034, 5, 255);
         for (int salt = 0; salt <= 255; salt++) {
-            Due.is("distance by " + salt + " is above 0", distance(salt, 2, 1155, 5) > 0 ? 1 : 0, 1);
+            Due.is("distance by " + salt + " is above 0", QuestionsTest.distance(salt, 2, 1155, 5) > 0 ? 1 : 0, 1);
         }
-        Due.is("distance by 256", distance(256, 2, 1155, 5), 0);
+        Due.is("distance by 256", QuestionsTest.distance(256, 2, 1155, 5), 0);
         bestSaltIs(2, 1155, 5, 0);
     }
 
@@ -247,24 +239,26 @@ final class BoundsOfQuestionsTest {
         Due.question("bestSalt(0) of an empty one", JoinedSketches::new, x -> x.bestSalt(0), 0);
         bestSaltIs(4, 99999, 1, 0);
         // By the first one the estimate is 1 too great, by the other one 1 too small.
-        Due.is("distance by 10", distance(10, 2, 0, 5), 1);
-        Due.is("distance by 92", distance(92, 2, 0, 5), 1);
+        Due.is("distance by 10", QuestionsTest.distance(10, 2, 0, 5), 1);
+        Due.is("distance by 92", QuestionsTest.distance(92, 2, 0, 5), 1);
         bestSaltIs(2, 0, 5, 10);
         // Here it is the other way round.
-        Due.is("distance by 0", distance(0, 2, 2, 5), 1);
-        Due.is("distance by 9", distance(9, 2, 2, 5), 1);
+        Due.is("distance by 0", QuestionsTest.distance(0, 2, 2, 5), 1);
+        Due.is("distance by 9", QuestionsTest.distance(9, 2, 2, 5), 1);
         bestSaltIs(2, 2, 5, 0);
     }
 
     static void bestSaltIsNearest() {
-        Due.sentence("19: by which the estimate of a sketch with the things of its list would be nearest to how many they "
-            + "are");
+        Due.sentence("19: by which the estimate of a sketch with the things of its list would be nearest to how many "
+            + "they are");
         int[][] streams = {{2, 0, 40}, {3, 99979, 21}, {4, 0, 40}, {5, 77777, 40}, {6, 40, 33}};
         for (int[] of : streams) {
             int due = 0;
+            int least = QuestionsTest.distance(0, of[0], of[1], of[2]);
             for (int salt = 1; salt <= 255; salt++) {
-                boolean isNearer = distance(salt, of[0], of[1], of[2]) < distance(due, of[0], of[1], of[2]);
-                due = isNearer ? salt : due;
+                int distance = QuestionsTest.distance(salt, of[0], of[1], of[2]);
+                due = distance < least ? salt : due;
+                least = Math.min(least, distance);
             }
             bestSaltIs(of[0], of[1], of[2], due);
             int best = due;

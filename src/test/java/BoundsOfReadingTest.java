@@ -37,8 +37,8 @@ final class BoundsOfReadingTest {
     }
 
     static void whatOfThing() {
-        Due.sentence("9: what: 0 its hash, 1 its bucket, 2 its rank, 3 whether it would change a rank; BAD_VALUE if what is "
-            + "out of range");
+        Due.sentence("9: what: 0 its hash, 1 its bucket, 2 its rank, 3 whether it would change a rank; BAD_VALUE if "
+            + "what is out of range");
         // Thing 0 has the hash 12345 XOR 48: 12297 is 768 * 16 + 9, and 768 ends with 8 zeros.
         int[] due = {12297, 9, 9, 1};
         for (int what = 0; what <= 3; what++) {
@@ -108,13 +108,14 @@ final class BoundsOfReadingTest {
     }
 
     static void whatOfSketch() {
-        Due.sentence("11: what: 0 BITS, 1 its buckets, ... 8 how many things its list has; BAD_VALUE if what is out of "
-            + "range");
+        Due.sentence("11: what: 0 BITS, 1 its buckets, ... 8 how many things its list has; BAD_VALUE if what is out "
+            + "of range");
         // Ranks 1, 1, 2 by BITS 5, as 1024 * 458752 / 19824640 is 23, and 32/30 + 32/31 + 32/32 is 3.
         int[] due = {5, 32, 29, 2, 1982464, 23, 3, 0, 3};
         for (int what = 0; what <= 8; what++) {
             int asked = what;
-            Due.question("ofSketch(0, " + what + ")", () -> Due.ranked(5, 1, 1, 2), x -> x.ofSketch(0, asked), due[what]);
+            Due.question("ofSketch(0, " + what + ")", () -> Due.ranked(5, 1, 1, 2), x -> x.ofSketch(0, asked),
+                due[what]);
         }
         for (int what : new int[] {-1, 9, LEAST, GREATEST}) {
             Due.error("ofSketch(0, " + what + ")", Due::furnished, x -> x.ofSketch(0, what), Due.BAD_VALUE);
@@ -150,7 +151,8 @@ final class BoundsOfReadingTest {
         Due.sentence("11: 8 how many things its list has (NONE if it is full)");
         int[][] cases = {{0, 0}, {1, 1}, {39, 39}, {40, 40}, {41, Due.NONE}, {999, Due.NONE}};
         for (int[] things : cases) {
-            Due.question("ofSketch(0, 8) of " + things[0], () -> Due.ofMany(things[0]), x -> x.ofSketch(0, 8), things[1]);
+            Due.question("ofSketch(0, 8) of " + things[0], () -> Due.ofMany(things[0]), x -> x.ofSketch(0, 8),
+                things[1]);
         }
     }
 
@@ -250,8 +252,8 @@ final class BoundsOfReadingTest {
     }
 
     static void greatestCounts() {
-        Due.sentence("14: 1 sketches that are not empty, 2 all buckets that are not empty, 3 full lists, 4 the length of "
-            + "the pad");
+        Due.sentence("14: 1 sketches that are not empty, 2 all buckets that are not empty, 3 full lists, 4 the "
+            + "length of the pad");
         JoinedSketches x = new JoinedSketches();
         for (int sketch = 0; sketch < 6; sketch++) {
             x.bits(sketch, 6);

@@ -247,7 +247,8 @@ final class BoundsOfTermsTest {
     }
 
     static void rankIsOneMoreThanLowestZeros() {
-        Due.sentence("The rank of a thing is 1 more than how many of the lowest bits of the left part are 0 side by side");
+        Due.sentence("The rank of a thing is 1 more than how many of the lowest bits of the left part are 0 side by "
+            + "side");
         int[] greatest = {0, 0, 14, 13, 12, 11, 10};
         for (int bits = 2; bits <= 6; bits++) {
             int buckets = 1 << bits;
@@ -319,7 +320,8 @@ final class BoundsOfTermsTest {
     }
 
     static void atMost5MOver2() {
-        Due.sentence("If it is at most 5 * m / 2, and E is above 0, the estimate is the sum of m / k, each rounded down");
+        Due.sentence("If it is at most 5 * m / 2, and E is above 0, the estimate is the sum of m / k, each rounded "
+            + "down");
         estimateIs(10, 4, 2, 2, 15, 1, 5);
         estimateIs(11, 11, 2, 2, 15, 1, 9);
         estimateIs(20, 8, 3, 6, 5);
@@ -402,8 +404,8 @@ final class BoundsOfTermsTest {
     }
 
     static void listsHave40() {
-        Due.sentence("a list beside it of the unlike things that came into it, as long as they are at most 40; by one "
-            + "more it is full, and empty of things");
+        Due.sentence("a list beside it of the unlike things that came into it, as long as they are at most 40; by "
+            + "one more it is full, and empty of things");
         listIs("none", Due.ofMany(0), 0);
         listIs("39", Due.ofMany(39), 0, upTo(39));
         JoinedSketches x = Due.ofMany(40);

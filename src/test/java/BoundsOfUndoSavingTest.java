@@ -15,6 +15,7 @@ final class BoundsOfUndoSavingTest {
         undoLeavesThePad();
         undoLeavesTheSlots();
         undoBringsAllBack();
+        fullStatesComeBack();
         noSuchSlot();
         saveOverwrites();
         saveKeepsThePadAndHistory();
@@ -67,7 +68,8 @@ final class BoundsOfUndoSavingTest {
                 }
                 for (int at = before.size() - 2; at >= Math.max(0, before.size() - 7); at--) {
                     x.undo();
-                    Due.is("things after undo() behind " + changes + " less " + undone, x.ofSketch(0, 8), before.get(at));
+                    Due.is("things after undo() behind " + changes + " less " + undone, x.ofSketch(0, 8),
+                        before.get(at));
                 }
                 Due.is("undo() of nothing", x.undo(), Due.NOT_POSSIBLE);
             }
@@ -75,8 +77,8 @@ final class BoundsOfUndoSavingTest {
     }
 
     static void changesThatChangeNothing() {
-        Due.sentence("24: each method that is a change, and returns no error, records the state before it (also if nothing "
-            + "is different then)");
+        Due.sentence("24: each method that is a change, and returns no error, records the state before it (also if "
+            + "nothing is different then)");
         List<ToLongFunction<JoinedSketches>> changes = List.of(x -> x.salt(12345), x -> x.bits(0, 4), x -> x.add(0, 7),
             x -> x.addRange(0, 7, 1), x -> x.join(0, 1), x -> x.empty(1), x -> x.carryOut(), x -> x.restore(0));
         for (int number = 0; number < changes.size(); number++) {
@@ -221,6 +223,40 @@ final class BoundsOfUndoSavingTest {
                 x.undo();
                 Due.is("all after change " + first + ", then " + second + " and undo()", Due.contents(x), between);
             }
+        }
+    }
+
+    /** Six sketches of 64 buckets, the last one filled, and of so many things; saved in slot 1. */
+    static JoinedSketches ofLists(int many) {
+        JoinedSketches x = new JoinedSketches();
+        for (int sketch = 0; sketch < 6; sketch++) {
+            x.bits(sketch, 6);
+            x.addRange(sketch, 1000 * sketch, many);
+            x.add(sketch, Due.thingFor(Due.FIRST_SALT, 6, 63, 11, 0));
+        }
+        x.save(1);
+        return x;
+    }
+
+    static void fullStatesComeBack() {
+        Due.sentence("24 and 26: everything is as it was: 39, 40 and 41 things, the last of 64 buckets");
+        for (int many = 38; many <= 40; many++) {
+            String before = Due.contents(ofLists(many));
+            JoinedSketches undone = ofLists(many);
+            undone.empty(5);
+            undone.addRange(5, 70000, 40);
+            undone.join(0, 5);
+            undone.undo();
+            undone.undo();
+            undone.undo();
+            Due.is("all after undo(), " + many + " things and one", Due.contents(undone), before);
+            JoinedSketches restored = ofLists(many);
+            restored.salt(1);
+            for (int sketch = 0; sketch < 6; sketch++) {
+                restored.addRange(sketch, 50000, 40);
+            }
+            restored.restore(1);
+            Due.is("all after restore(), " + many + " things and one", Due.contents(restored), before);
         }
     }
 

@@ -11,8 +11,8 @@ final class ExtremesTest {
         998, 999, 1000, 65535, 65536, 99001, 99002, 99999, 100000, GREATEST - 1, GREATEST};
     private static final int[] FEW = {LEAST, -1, 0, 1, 3, 4, 999, 1000, 99999, 100000, GREATEST};
     private static final List<String> SETUPS = List.of("", "full", "mixed");
-    private static final List<String> PADS = List.of("", "0!", "0!;".repeat(24), "0!;".repeat(24) + "5", "0!;".repeat(26)
-        + "5", "0!;".repeat(26) + "5!");
+    private static final List<String> PADS = List.of("", "0!", "0!;".repeat(24), "0!;".repeat(24) + "5",
+        "0!;".repeat(26) + "5", "0!;".repeat(26) + "5!");
 
     private final String setup;
     private final JoinedSketches x = new JoinedSketches();

@@ -163,6 +163,7 @@ final class QuestionsTest {
         Due.question("nextNew(5, 99999)", Due::furnished, x -> x.nextNew(5, 99999), 99999);
     }
 
+    /** How far the estimate would be from many by this SALT, asked of a sketch that is made by it. */
     static int distance(int salt, int bits, int from, int many) {
         JoinedSketches x = new JoinedSketches();
         x.salt(salt);
