@@ -89,7 +89,7 @@ final class BoundsOfReadingTest {
             int ofBits = bits;
             int last = (1 << bits) - 1;
             Due.question("bucket(0, " + last + ")", () -> Due.ranked(ofBits), x -> x.bucket(0, last), 0);
-            for (int bucket : new int[] {-1, last + 1, 64, LEAST, GREATEST}) {
+            for (int bucket : new int[] {-1, last + 1, last + 2, 64, LEAST, GREATEST}) {
                 Due.error("bucket(0, " + bucket + ") by BITS " + bits, () -> Due.ranked(ofBits),
                     x -> x.bucket(0, bucket), Due.NO_SUCH);
             }
@@ -98,6 +98,11 @@ final class BoundsOfReadingTest {
             for (int bucket : new int[] {0, -1, 64}) {
                 Due.error("bucket(" + none + ", " + bucket + ")", Due::furnished, x -> x.bucket(none, bucket),
                     Due.NO_SUCH);
+            }
+        }
+        for (int bits = 2; bits <= 5; bits++) {
+            for (int bucket = 1 << bits; bucket <= 64; bucket++) {
+                Due.is("bucket(0, " + bucket + ") by BITS " + bits, Due.ranked(bits).bucket(0, bucket), Due.NO_SUCH);
             }
         }
         JoinedSketches x = Due.ranked(6, Due.ranks(64, 1));
